@@ -515,6 +515,7 @@ public final class PromiseTest {
 
     private static void askedOfNoTalker() {
         SmallerTalk talk = new SmallerTalk();
+        talk.setStones(4);
         talk.addTalker(1, 2, 9);
         for (int talker : new int[] {Integer.MIN_VALUE, -1, 1, 5, 6, Integer.MAX_VALUE}) {
             CHECKS.throwsAndKeeps("26: isPresent(" + talker + ")", talk, INDEX, () -> talk.isPresent(talker));
@@ -526,6 +527,7 @@ public final class PromiseTest {
             talk.addTalker(1, 2, 9);
         }
         CHECKS.due("26: isPresent(5)", talk.isPresent(5), true);
+        CHECKS.due("32: minutesUntilExit(5)", talk.minutesUntilExit(5), -1);
         CHECKS.throwsAndKeeps("26: isPresent(6) of 6", talk, INDEX, () -> talk.isPresent(6));
         CHECKS.throwsAndKeeps("27: patienceOf(6) of 6", talk, INDEX, () -> talk.patienceOf(6));
         CHECKS.throwsAndKeeps("28: exitOf(6) of 6", talk, INDEX, () -> talk.exitOf(6));
@@ -564,6 +566,16 @@ public final class PromiseTest {
         talk.addTalker(3, 7, 1);
         CHECKS.due("30: with what a talker brings", talk.noiseIn(1), 66);
         CHECKS.due("30: noiseIn(1) again", talk.noiseIn(1), 66);
+        SmallerTalk other = with(1, 99, 1, 60, 0, 9, 0, 10);
+        other.setStones(2);
+        CHECKS.due("30: with two stones", other.noiseIn(1), 98);
+        other.setGear(3);
+        CHECKS.due("33: a look ahead with other gears", other.bestGear(), 2);
+        CHECKS.due("30: with the gear of now", other.noiseIn(1), 72);
+        other.setMesh(10);
+        CHECKS.due("30: with the mesh of now", other.noiseIn(1), 63);
+        other.setMesh(0);
+        CHECKS.due("30: with mesh 0", other.noiseIn(1), 72);
     }
 
     // Promise 31
@@ -657,6 +669,7 @@ public final class PromiseTest {
         CHECKS.due("33: the gear stays", talk.gear(), 9);
         // Gear 7 needs 3 minutes each (14, 2, a nod), 8 and 9 need 2: just 10 in all.
         CHECKS.due("33: 5 of 99", with(1, 99, 1, 99, 1, 99, 1, 99, 1, 99).bestGear(), 8);
+        CHECKS.due("33: 17 is a nod at once with 9 alone", full(1, 17).bestGear(), 9);
         // 8 and 9 leave one of 99 as it was; a minute later 9 would leave less of it.
         CHECKS.due("33: 6 of 99", with(1, 99, 1, 99, 1, 99, 1, 99, 1, 99, 1, 99).bestGear(), 8);
     }
