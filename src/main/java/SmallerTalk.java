@@ -25,6 +25,8 @@ public final class SmallerTalk {
     private static final int MINUTES_FOR_PUSH = 5;
 
     private static final int NONE = -1;
+    private static final int LOUDER_THAN_ANY = MOST_TOPICS * MOST_SIZE + 1;
+    private static final int MORE_THAN_ANY_PATIENCE = MOST_PATIENCE + 1;
     private static final long DIGEST_START = 2039L;
     private static final long DIGEST_FACTOR = 31L;
 
@@ -245,7 +247,7 @@ public final class SmallerTalk {
 
     public int bestGear() {
         int best = LEAST_GEAR;
-        int least = Integer.MAX_VALUE;
+        int least = LOUDER_THAN_ANY;
         for (int gear = LEAST_GEAR; gear <= MOST_GEAR; gear++) {
             trial.copyFrom(now);
             trial.gear = gear;
@@ -261,7 +263,7 @@ public final class SmallerTalk {
 
     public int bestPush() {
         int best = NONE;
-        int least = Integer.MAX_VALUE;
+        int least = LOUDER_THAN_ANY;
         for (int place = 0; place < now.belt.count; place++) {
             trial.copyFrom(now);
             trial.belt.moveToFront(place);
@@ -571,7 +573,7 @@ public final class SmallerTalk {
 
         int leastPatient() {
             int found = NONE;
-            int least = Integer.MAX_VALUE;
+            int least = MORE_THAN_ANY_PATIENCE;
             for (int talker = 0; talker < count; talker++) {
                 if (exits[talker] == NONE && patience[talker] < least) {
                     least = patience[talker];

@@ -9,7 +9,7 @@ public final class SourceTest {
     private static final Path SOURCE = Path.of("src/main/java/SmallerTalk.java");
     private static final int LONGEST_METHOD = 60;
     private static final Pattern OUTSIDE = Pattern.compile(
-            "^package|^import|\\b(catch|finally|assert|synchronized|instanceof|System|Object|float)\\b|->|::");
+            "^package|^import|\\b(catch|finally|assert|synchronized|instanceof|System|Integer|Long|Object|float)\\b|->|::");
     private static final Pattern METHOD = Pattern.compile("^ {4}(?: {4})?[\\w\\[\\]]+(?: [\\w\\[\\]]+)*\\(.*\\{$");
     private static final Pattern MADE = Pattern.compile("new (?!Illegal|IndexOut)");
 
