@@ -38,7 +38,8 @@ final class Checks {
 
     /** The call throws exactly this exception, by its own throw, and changes nothing. */
     void throwsAndKeeps(String what, SmallerTalk talk, Class<? extends RuntimeException> want, Call call) {
-        String before = allOf(talk);
+        // One call tells of all that is: an object has 512 calls.
+        long before = talk.digest();
         Class<?> got = null;
         try {
             call.run();
@@ -46,7 +47,11 @@ final class Checks {
             got = e.getClass();
         }
         due(what, got == null ? "nothing thrown" : got.getName(), want.getName());
-        due(what + ": the state behind it", allOf(talk), before);
+        due(what + ": digest() behind it", talk.digest(), before);
+    }
+
+    int made() {
+        return made;
     }
 
     boolean anyWrong() {

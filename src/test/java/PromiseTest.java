@@ -48,22 +48,6 @@ public final class PromiseTest {
         CHECKS.end();
     }
 
-    private static SmallerTalk with(int... kindsAndSizes) {
-        SmallerTalk talk = new SmallerTalk();
-        for (int i = 0; i < kindsAndSizes.length; i += 2) {
-            talk.put(kindsAndSizes[i], kindsAndSizes[i + 1]);
-        }
-        return talk;
-    }
-
-    private static SmallerTalk full(int kind, int size) {
-        SmallerTalk talk = new SmallerTalk();
-        for (int i = 0; i < 12; i++) {
-            talk.put(kind, size);
-        }
-        return talk;
-    }
-
     private static void belt(String what, SmallerTalk talk, String want) {
         CHECKS.due(what, Checks.beltOf(talk), want);
     }
@@ -107,7 +91,7 @@ public final class PromiseTest {
     }
 
     private static void putWrong() {
-        SmallerTalk talk = with(1, 9);
+        SmallerTalk talk = States.with(1, 9);
         for (int kind : new int[] {Integer.MIN_VALUE, -1, 5, Integer.MAX_VALUE}) {
             CHECKS.throwsAndKeeps("2: kind " + kind, talk, ARGUMENT, () -> talk.put(kind, 10));
         }
@@ -118,7 +102,7 @@ public final class PromiseTest {
 
     // Promise 3
     private static void pushToFront() {
-        SmallerTalk talk = with(1, 10, 2, 20, 3, 30, 4, 40);
+        SmallerTalk talk = States.with(1, 10, 2, 20, 3, 30, 4, 40);
         CHECKS.due("3: pushToFront(2)", talk.pushToFront(2), 30);
         belt("3: behind it", talk, "3:30 1:10 2:20 4:40");
         CHECKS.due("3: pushToFront(0)", talk.pushToFront(0), 30);
@@ -131,14 +115,14 @@ public final class PromiseTest {
         }
         SmallerTalk empty = new SmallerTalk();
         CHECKS.throwsAndKeeps("3: on an empty belt", empty, INDEX, () -> empty.pushToFront(0));
-        SmallerTalk twelve = full(1, 5);
+        SmallerTalk twelve = States.full(1, 5);
         CHECKS.due("3: pushToFront(11)", twelve.pushToFront(11), 5);
         CHECKS.throwsAndKeeps("3: pushToFront(12)", twelve, INDEX, () -> twelve.pushToFront(12));
     }
 
     // Promise 4
     private static void drop() {
-        SmallerTalk talk = with(1, 10, 2, 20, 3, 30, 4, 40);
+        SmallerTalk talk = States.with(1, 10, 2, 20, 3, 30, 4, 40);
         CHECKS.due("4: drop(1)", talk.drop(1), 3);
         belt("4: behind it", talk, "1:10 3:30 4:40");
         CHECKS.due("4: drop(2)", talk.drop(2), 2);
@@ -153,7 +137,7 @@ public final class PromiseTest {
         CHECKS.throwsAndKeeps("4: on an empty belt", talk, INDEX, () -> talk.drop(0));
         CHECKS.due("4: a dropped topic is no nod", talk.nods(), 0);
         CHECKS.due("4: a dropped topic is not sieved", talk.sieved(), 0);
-        SmallerTalk twelve = full(1, 5);
+        SmallerTalk twelve = States.full(1, 5);
         CHECKS.due("4: drop(11) of 12", twelve.drop(11), 11);
     }
 
@@ -183,7 +167,7 @@ public final class PromiseTest {
 
     // Promises 7 and 23
     private static void setMesh() {
-        SmallerTalk talk = with(0, 2);
+        SmallerTalk talk = States.with(0, 2);
         CHECKS.due("7: setMesh(20)", talk.setMesh(20), 3);
         CHECKS.due("23: mesh()", talk.mesh(), 20);
         CHECKS.due("7: nothing falls at once", talk.topics(), 1);
@@ -217,7 +201,7 @@ public final class PromiseTest {
     }
 
     private static void addTalkerWrong() {
-        SmallerTalk talk = with(1, 9);
+        SmallerTalk talk = States.with(1, 9);
         for (int kind : new int[] {Integer.MIN_VALUE, -1, 5, Integer.MAX_VALUE}) {
             CHECKS.throwsAndKeeps("8: kind " + kind, talk, ARGUMENT, () -> talk.addTalker(kind, 10, 1));
         }
@@ -239,7 +223,7 @@ public final class PromiseTest {
         }
         CHECKS.due("9: pass(1)", talk.pass(1), 0);
         CHECKS.due("9: minute() then", talk.minute(), 61);
-        SmallerTalk loud = full(1, 99);
+        SmallerTalk loud = States.full(1, 99);
         loud.addTalker(1, 99, 9);
         loud.addTalker(1, 99, 9);
         CHECKS.due("9: two go at once", loud.pass(1), 2);
@@ -248,7 +232,7 @@ public final class PromiseTest {
 
     // Promise 9, step 1, and promise 18
     private static void grinding() {
-        SmallerTalk talk = with(1, 40, 2, 7, 3, 15, 4, 99);
+        SmallerTalk talk = States.with(1, 40, 2, 7, 3, 15, 4, 99);
         talk.pass(1);
         belt("9.1: one stone grinds the first", talk, "1:20 2:7 3:15 4:99");
         talk.setStones(3);
@@ -262,7 +246,7 @@ public final class PromiseTest {
         talk.pass(1);
         belt("9.1: more stones than topics", talk, "4:33");
         CHECKS.due("18: nods()", talk.nods(), 3);
-        SmallerTalk edge = with(1, 3, 1, 4, 1, 3, 1, 4);
+        SmallerTalk edge = States.with(1, 3, 1, 4, 1, 3, 1, 4);
         edge.setStones(4);
         edge.pass(1);
         belt("9.1: 3 / 2 is a nod, 4 / 2 is not", edge, "1:2 1:2");
@@ -271,7 +255,7 @@ public final class PromiseTest {
 
     // Promise 9, step 2, and promise 20
     private static void sieving() {
-        SmallerTalk talk = with(1, 99, 0, 2, 1, 2, 0, 3, 0, 4);
+        SmallerTalk talk = States.with(1, 99, 0, 2, 1, 2, 0, 3, 0, 4);
         talk.pass(1);
         belt("9.2: weather under the mesh falls", talk, "1:49 1:2 0:3 0:4");
         CHECKS.due("20: sieved()", talk.sieved(), 1);
@@ -279,14 +263,14 @@ public final class PromiseTest {
         talk.pass(1);
         belt("9.2: the mesh itself stays", talk, "1:24 1:2 0:4");
         CHECKS.due("20: sieved() adds up", talk.sieved(), 2);
-        SmallerTalk ground = with(0, 39, 0, 3);
+        SmallerTalk ground = States.with(0, 39, 0, 3);
         ground.setMesh(20);
         ground.setStones(2);
         ground.pass(1);
         belt("9.2: ground before it is sieved", ground, "");
         CHECKS.due("20: 39 / 2 falls", ground.sieved(), 1);
         CHECKS.due("18: a weather nod is no sieved one", ground.nods(), 1);
-        SmallerTalk none = with(1, 99, 0, 2);
+        SmallerTalk none = States.with(1, 99, 0, 2);
         none.setMesh(0);
         none.pass(1);
         CHECKS.due("9.2: mesh 0 lets nothing fall", none.sieved(), 0);
@@ -301,7 +285,7 @@ public final class PromiseTest {
 
     // Promise 9, step 3, and promises 18 and 19
     private static void bottling() {
-        SmallerTalk talk = full(1, 2);
+        SmallerTalk talk = States.full(1, 2);
         talk.pass(5);
         CHECKS.due("18: 5 nods", talk.nods(), 5);
         CHECKS.due("19: no bottle of 5", talk.bottles(), 0);
@@ -320,7 +304,7 @@ public final class PromiseTest {
 
     // Promise 9, step 4, and promise 27
     private static void patience() {
-        SmallerTalk talk = with(1, 2);
+        SmallerTalk talk = States.with(1, 2);
         talk.addTalker(1, 40, 9);
         talk.addTalker(1, 2, 8);
         talk.pass(1);
@@ -332,16 +316,16 @@ public final class PromiseTest {
         talk.pass(1);
         CHECKS.due("27: noise 12 takes 1", talk.patienceOf(0), 27);
         CHECKS.due("27: noise is heard behind the mill", talk.noise(), 12);
-        SmallerTalk edge = with(1, 40, 1, 19);
+        SmallerTalk edge = States.with(1, 40, 1, 19);
         edge.addTalker(1, 2, 9);
         edge.pass(1);
         CHECKS.due("27: noise 39 takes 2", edge.patienceOf(0), 28);
         belt("9.5: the new topic is not heard in its minute", edge, "1:20 1:19 1:2");
-        SmallerTalk twenty = with(1, 40);
+        SmallerTalk twenty = States.with(1, 40);
         twenty.addTalker(1, 2, 9);
         twenty.pass(1);
         CHECKS.due("27: noise 20 takes 2", twenty.patienceOf(0), 28);
-        SmallerTalk nineteen = with(1, 38);
+        SmallerTalk nineteen = States.with(1, 38);
         nineteen.addTalker(1, 2, 9);
         nineteen.pass(1);
         CHECKS.due("27: noise 19 takes 1", nineteen.patienceOf(0), 29);
@@ -354,7 +338,7 @@ public final class PromiseTest {
 
     // Promise 9, step 4, and promises 25, 26, 28
     private static void leaving() {
-        SmallerTalk talk = full(1, 99);
+        SmallerTalk talk = States.full(1, 99);
         talk.pass(7);
         for (int i = 0; i < 4; i++) {
             talk.drop(0);
@@ -379,11 +363,11 @@ public final class PromiseTest {
         CHECKS.due("26: gone for good", talk.isPresent(0), false);
         CHECKS.due("27: no patience comes back", talk.patienceOf(0), 0);
         CHECKS.due("28: the minute stays", talk.exitOf(0), 7);
-        SmallerTalk exact = with(1, 87, 1, 99, 1, 99, 1, 99, 1, 99, 1, 99, 1, 76);
+        SmallerTalk exact = States.with(1, 87, 1, 99, 1, 99, 1, 99, 1, 99, 1, 99, 1, 76);
         exact.setGear(9);
         exact.addTalker(1, 2, 9);
         CHECKS.due("9.4: noise 9 + 495 + 76 takes all 30", exact.pass(1), 1);
-        SmallerTalk almost = with(1, 87, 1, 99, 1, 99, 1, 99, 1, 99, 1, 99, 1, 75);
+        SmallerTalk almost = States.with(1, 87, 1, 99, 1, 99, 1, 99, 1, 99, 1, 99, 1, 75);
         almost.setGear(9);
         almost.addTalker(1, 2, 9);
         CHECKS.due("9.4: noise 579 leaves 1", almost.pass(1), 0);
@@ -406,7 +390,7 @@ public final class PromiseTest {
         belt("9.5: minute 3", talk, "2:4 2:8 3:4");
         talk.pass(3);
         belt("9.5: minute 6 brings both", talk, "2:4 3:4 2:8 3:4 2:8");
-        SmallerTalk crowded = full(4, 4);
+        SmallerTalk crowded = States.full(4, 4);
         crowded.drop(11);
         crowded.addTalker(2, 5, 1);
         crowded.addTalker(3, 6, 1);
@@ -418,13 +402,13 @@ public final class PromiseTest {
 
     // Promises 10 and 11
     private static void minuteAndTopics() {
-        SmallerTalk talk = with(1, 99, 2, 99);
+        SmallerTalk talk = States.with(1, 99, 2, 99);
         talk.noiseIn(60);
         CHECKS.due("10: minute() behind a look ahead", talk.minute(), 0);
         talk.pass(13);
         talk.pass(2);
         CHECKS.due("10: minute()", talk.minute(), 15);
-        SmallerTalk other = with(1, 99, 2, 99);
+        SmallerTalk other = States.with(1, 99, 2, 99);
         CHECKS.due("11: topics()", other.topics(), 2);
         other.pass(6);
         CHECKS.due("11: behind a nod", other.topics(), 1);
@@ -432,7 +416,7 @@ public final class PromiseTest {
 
     // Promises 12 and 13
     private static void sizeAtAndKindAt() {
-        SmallerTalk talk = with(1, 10, 4, 99);
+        SmallerTalk talk = States.with(1, 10, 4, 99);
         CHECKS.due("12: sizeAt(0)", talk.sizeAt(0), 10);
         CHECKS.due("12: sizeAt(1)", talk.sizeAt(1), 99);
         CHECKS.due("13: kindAt(0)", talk.kindAt(0), 1);
@@ -441,7 +425,7 @@ public final class PromiseTest {
             CHECKS.throwsAndKeeps("12: sizeAt(" + place + ")", talk, INDEX, () -> talk.sizeAt(place));
             CHECKS.throwsAndKeeps("13: kindAt(" + place + ")", talk, INDEX, () -> talk.kindAt(place));
         }
-        SmallerTalk twelve = full(3, 7);
+        SmallerTalk twelve = States.full(3, 7);
         CHECKS.due("12: sizeAt(11)", twelve.sizeAt(11), 7);
         CHECKS.due("13: kindAt(11)", twelve.kindAt(11), 3);
         CHECKS.throwsAndKeeps("12: sizeAt(12)", twelve, INDEX, () -> twelve.sizeAt(12));
@@ -451,22 +435,22 @@ public final class PromiseTest {
     // Promise 14
     private static void largest() {
         CHECKS.due("14: an empty belt", new SmallerTalk().largest(), -1);
-        CHECKS.due("14: one", with(0, 2).largest(), 0);
-        CHECKS.due("14: the largest", with(0, 5, 1, 9, 2, 8).largest(), 1);
-        CHECKS.due("14: the last one", with(0, 5, 1, 9, 2, 10).largest(), 2);
-        CHECKS.due("14: of several the first one", with(0, 5, 1, 9, 2, 9, 3, 9).largest(), 1);
+        CHECKS.due("14: one", States.with(0, 2).largest(), 0);
+        CHECKS.due("14: the largest", States.with(0, 5, 1, 9, 2, 8).largest(), 1);
+        CHECKS.due("14: the last one", States.with(0, 5, 1, 9, 2, 10).largest(), 2);
+        CHECKS.due("14: of several the first one", States.with(0, 5, 1, 9, 2, 9, 3, 9).largest(), 1);
     }
 
     // Promise 15
     private static void noise() {
         CHECKS.due("15: an empty belt", new SmallerTalk().noise(), 0);
-        CHECKS.due("15: all added", with(0, 5, 1, 9, 2, 99).noise(), 113);
-        CHECKS.due("15: a full belt", full(4, 99).noise(), 1188);
+        CHECKS.due("15: all added", States.with(0, 5, 1, 9, 2, 99).noise(), 113);
+        CHECKS.due("15: a full belt", States.full(4, 99).noise(), 1188);
     }
 
     // Promise 16
     private static void topicsOf() {
-        SmallerTalk talk = with(0, 5, 4, 9, 0, 99, 2, 3);
+        SmallerTalk talk = States.with(0, 5, 4, 9, 0, 99, 2, 3);
         CHECKS.due("16: topicsOf(0)", talk.topicsOf(0), 2);
         CHECKS.due("16: topicsOf(1)", talk.topicsOf(1), 0);
         CHECKS.due("16: topicsOf(2)", talk.topicsOf(2), 1);
@@ -480,7 +464,7 @@ public final class PromiseTest {
 
     // Promise 17
     private static void turnsToNod() {
-        SmallerTalk talk = with(1, 2, 1, 3, 1, 4, 1, 63, 1, 64, 1, 99, 0, 9);
+        SmallerTalk talk = States.with(1, 2, 1, 3, 1, 4, 1, 63, 1, 64, 1, 99, 0, 9);
         int[] withTwo = {1, 1, 2, 5, 6, 6, 3};
         int[] withNine = {1, 1, 1, 2, 2, 2, 1};
         for (int place = 0; place < withTwo.length; place++) {
@@ -498,7 +482,7 @@ public final class PromiseTest {
 
     // Promises 24 to 28
     private static void talkersAndPresent() {
-        SmallerTalk talk = full(1, 99);
+        SmallerTalk talk = States.full(1, 99);
         talk.addTalker(1, 2, 9);
         talk.addTalker(1, 2, 9);
         talk.pass(1);
@@ -536,7 +520,7 @@ public final class PromiseTest {
 
     // Promise 29
     private static void nextToGo() {
-        SmallerTalk talk = with(1, 99);
+        SmallerTalk talk = States.with(1, 99);
         CHECKS.due("29: nobody was ever there", talk.nextToGo(), -1);
         talk.addTalker(1, 2, 9);
         talk.addTalker(1, 2, 9);
@@ -544,7 +528,7 @@ public final class PromiseTest {
         talk.pass(1);
         talk.addTalker(1, 2, 9);
         CHECKS.due("29: the least patience", talk.nextToGo(), 0);
-        SmallerTalk left = full(1, 99);
+        SmallerTalk left = States.full(1, 99);
         left.addTalker(1, 2, 9);
         left.pass(1);
         CHECKS.due("29: all are gone", left.nextToGo(), -1);
@@ -555,7 +539,7 @@ public final class PromiseTest {
 
     // Promise 30
     private static void noiseIn() {
-        SmallerTalk talk = with(1, 99, 2, 10);
+        SmallerTalk talk = States.with(1, 99, 2, 10);
         CHECKS.due("30: noiseIn(1)", talk.noiseIn(1), 59);
         CHECKS.due("30: noiseIn(5)", talk.noiseIn(5), 13);
         CHECKS.due("30: noiseIn(6)", talk.noiseIn(6), 10);
@@ -566,7 +550,7 @@ public final class PromiseTest {
         talk.addTalker(3, 7, 1);
         CHECKS.due("30: with what a talker brings", talk.noiseIn(1), 66);
         CHECKS.due("30: noiseIn(1) again", talk.noiseIn(1), 66);
-        SmallerTalk other = with(1, 99, 1, 60, 0, 9, 0, 10);
+        SmallerTalk other = States.with(1, 99, 1, 60, 0, 9, 0, 10);
         other.setStones(2);
         CHECKS.due("30: with two stones", other.noiseIn(1), 98);
         other.setGear(3);
@@ -594,7 +578,7 @@ public final class PromiseTest {
         // Each 2 is a nod before it is heard, so this one never goes, and brings the next.
         endless.put(1, 2);
         CHECKS.due("31: a talker who never stops", endless.minutesUntilQuiet(), -1);
-        SmallerTalk twelve = full(1, 99);
+        SmallerTalk twelve = States.full(1, 99);
         CHECKS.due("31: 12 times 6", twelve.minutesUntilQuiet(), 72);
     }
 
@@ -621,16 +605,16 @@ public final class PromiseTest {
 
     // Promise 32
     private static void minutesUntilExit() {
-        SmallerTalk talk = with(1, 80);
+        SmallerTalk talk = States.with(1, 80);
         talk.addTalker(1, 2, 9);
         // Behind the mill it is 40, 20, 10, 5, 2, 0 with one topic of 2 behind it: no exit within the belt's noise.
         CHECKS.due("32: one who never goes", talk.minutesUntilExit(0), -1);
-        SmallerTalk loud = full(1, 99);
+        SmallerTalk loud = States.full(1, 99);
         loud.addTalker(1, 2, 9);
         CHECKS.due("32: at once", loud.minutesUntilExit(0), 1);
         loud.pass(1);
         CHECKS.due("32: one who is gone", loud.minutesUntilExit(0), 0);
-        SmallerTalk two = with(1, 99, 1, 99, 1, 99, 1, 99);
+        SmallerTalk two = States.with(1, 99, 1, 99, 1, 99, 1, 99);
         two.addTalker(1, 2, 9);
         // 346, 321, .. take 18, 17, ..: 30, 12, gone.
         CHECKS.due("32: behind two", two.minutesUntilExit(0), 2);
@@ -660,32 +644,32 @@ public final class PromiseTest {
     // Promise 33
     private static void bestGear() {
         CHECKS.due("33: an empty belt", new SmallerTalk().bestGear(), 2);
-        CHECKS.due("33: quiet with each gear", with(1, 9).bestGear(), 2);
+        CHECKS.due("33: quiet with each gear", States.with(1, 9).bestGear(), 2);
         // With 2, 99 takes 6 minutes each: behind 10 there is 99 / 16; with 3, 4 each; both are quiet then.
-        SmallerTalk talk = with(1, 99, 1, 99);
+        SmallerTalk talk = States.with(1, 99, 1, 99);
         CHECKS.due("33: the first that is quiet", talk.bestGear(), 3);
         talk.setGear(9);
         CHECKS.due("33: whatever the gear of now", talk.bestGear(), 3);
         CHECKS.due("33: the gear stays", talk.gear(), 9);
         // Gear 7 needs 3 minutes each (14, 2, a nod), 8 and 9 need 2: just 10 in all.
-        CHECKS.due("33: 5 of 99", with(1, 99, 1, 99, 1, 99, 1, 99, 1, 99).bestGear(), 8);
-        CHECKS.due("33: 17 is a nod at once with 9 alone", full(1, 17).bestGear(), 9);
+        CHECKS.due("33: 5 of 99", States.with(1, 99, 1, 99, 1, 99, 1, 99, 1, 99).bestGear(), 8);
+        CHECKS.due("33: 17 is a nod at once with 9 alone", States.full(1, 17).bestGear(), 9);
         // 8 and 9 leave one of 99 as it was; a minute later 9 would leave less of it.
-        CHECKS.due("33: 6 of 99", with(1, 99, 1, 99, 1, 99, 1, 99, 1, 99, 1, 99).bestGear(), 8);
+        CHECKS.due("33: 6 of 99", States.with(1, 99, 1, 99, 1, 99, 1, 99, 1, 99, 1, 99).bestGear(), 8);
     }
 
     // Promise 34
     private static void bestPush() {
         CHECKS.due("34: an empty belt", new SmallerTalk().bestPush(), -1);
-        CHECKS.due("34: one topic", with(1, 9).bestPush(), 0);
+        CHECKS.due("34: one topic", States.with(1, 9).bestPush(), 0);
         // With gear 2, 5 minutes make 99 a 3 (96 less), and take 40 away with all of it.
-        CHECKS.due("34: the large one", with(1, 40, 1, 99).bestPush(), 1);
-        CHECKS.due("34: of several the smallest", with(1, 40, 1, 99, 1, 99).bestPush(), 1);
-        CHECKS.due("34: all the same", full(2, 50).bestPush(), 0);
+        CHECKS.due("34: the large one", States.with(1, 40, 1, 99).bestPush(), 1);
+        CHECKS.due("34: of several the smallest", States.with(1, 40, 1, 99, 1, 99).bestPush(), 1);
+        CHECKS.due("34: all the same", States.full(2, 50).bestPush(), 0);
         // In 5 minutes 62 is a nod and 64 is 2: both 62 less. In 4 the 64 would lose more, in 6 the 62 first is better.
-        CHECKS.due("34: not behind 4 minutes", with(1, 62, 1, 64).bestPush(), 0);
-        CHECKS.due("34: not behind 6 minutes", with(1, 64, 1, 62).bestPush(), 0);
-        SmallerTalk talk = with(1, 2, 1, 2, 1, 99);
+        CHECKS.due("34: not behind 4 minutes", States.with(1, 62, 1, 64).bestPush(), 0);
+        CHECKS.due("34: not behind 6 minutes", States.with(1, 64, 1, 62).bestPush(), 0);
+        SmallerTalk talk = States.with(1, 2, 1, 2, 1, 99);
         talk.setStones(4);
         CHECKS.due("34: no place matters with many stones", talk.bestPush(), 0);
         belt("34: the belt stays", talk, "1:2 1:2 1:99");
@@ -693,7 +677,7 @@ public final class PromiseTest {
 
     // Promise 35
     private static void bottlesIn() {
-        SmallerTalk talk = full(1, 2);
+        SmallerTalk talk = States.full(1, 2);
         CHECKS.due("35: bottlesIn(5)", talk.bottlesIn(5), 0);
         CHECKS.due("35: bottlesIn(6)", talk.bottlesIn(6), 1);
         CHECKS.due("35: bottlesIn(12)", talk.bottlesIn(12), 2);
@@ -708,7 +692,7 @@ public final class PromiseTest {
 
     // Promise 36
     private static void meanPatience() {
-        SmallerTalk talk = with(1, 38);
+        SmallerTalk talk = States.with(1, 38);
         CHECKS.due("36: nobody", talk.meanPatience(), 0.0);
         talk.addTalker(1, 2, 9);
         CHECKS.due("36: one", talk.meanPatience(), 30.0);
@@ -717,7 +701,7 @@ public final class PromiseTest {
         CHECKS.due("36: 29 and 30", talk.meanPatience(), 29.5);
         talk.addTalker(1, 2, 9);
         CHECKS.due("36: 29, 30 and 30", talk.meanPatience(), 89.0 / 3.0);
-        SmallerTalk left = full(1, 99);
+        SmallerTalk left = States.full(1, 99);
         left.addTalker(1, 2, 9);
         left.pass(1);
         CHECKS.due("36: all are gone", left.meanPatience(), 0.0);
@@ -732,7 +716,7 @@ public final class PromiseTest {
             empty = empty * 31 + x;
         }
         CHECKS.due("37: a new object", new SmallerTalk().digest(), empty);
-        SmallerTalk talk = full(4, 99);
+        SmallerTalk talk = States.full(4, 99);
         talk.addTalker(1, 2, 9);
         talk.pass(1);
         talk.addTalker(1, 2, 9);
@@ -752,7 +736,7 @@ public final class PromiseTest {
     }
 
     private static void looksAheadChangeNothing() {
-        SmallerTalk talk = with(1, 99, 0, 7, 2, 50, 0, 3);
+        SmallerTalk talk = States.with(1, 99, 0, 7, 2, 50, 0, 3);
         talk.addTalker(0, 9, 3);
         talk.addTalker(3, 30, 2);
         talk.pass(3);
